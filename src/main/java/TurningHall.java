@@ -1586,9 +1586,9 @@ public final class TurningHall {
 
         private void findTwins(Plan read) {
             for (int a = 0; a < Plan.SLOTS; a++) {
-                for (int b = 0; b < Plan.SLOTS; b++) {
-                    boolean told = read.isTold(a) && read.isTold(b) && read.namePlaces[a] < read.namePlaces[b];
-                    if (told && read.hasNameAt(a, tape, read.namePlaces[b])) {
+                for (int b = 0; b < Plan.SLOTS && read.isTold(a); b++) {
+                    boolean behind = read.isTold(b) && read.namePlaces[a] < read.namePlaces[b];
+                    if (behind && read.hasNameAt(a, tape, read.namePlaces[b])) {
                         noteName(read.namePlaces[b]);
                     }
                 }
@@ -1858,7 +1858,8 @@ public final class TurningHall {
             state.renew();
             for (int f = 0; f < plan.formulas; f++) {
                 if (plan.roles[f] == Plan.FIRST || plan.roles[f] == Plan.SHOWN) {
-                    renewThing(plan, f);
+                    boolean good = workOut(plan.code, plan, plan.froms[f], plan.stops[f]);
+                    renewThing(plan, f, good);
                     state.olds[plan.owners[f]] = state.values[plan.owners[f]];
                 }
             }
@@ -1867,26 +1868,28 @@ public final class TurningHall {
         private void turn(Plan plan) {
             state.goOn();
             for (int f = 0; f < plan.formulas; f++) {
-                if (plan.roles[f] == Plan.RINGING) {
-                    ring(plan, f);
-                } else if (plan.roles[f] != Plan.FIRST) {
-                    renewThing(plan, f);
+                if (plan.roles[f] != Plan.FIRST) {
+                    boolean good = workOut(plan.code, plan, plan.froms[f], plan.stops[f]);
+                    if (plan.roles[f] == Plan.RINGING) {
+                        ring(plan.owners[f], good);
+                    } else {
+                        renewThing(plan, f, good);
+                    }
                 }
             }
         }
 
-        private void renewThing(Plan plan, int f) {
+        private void renewThing(Plan plan, int f, boolean good) {
             int owner = plan.owners[f];
-            if (workOut(plan.code, plan, plan.froms[f], plan.stops[f])) {
+            if (good) {
                 state.values[owner] = Sorts.become(result(), plan.gives[f], plan.sorts[owner]);
             } else {
                 state.addJam(owner, jam, jamPlace);
             }
         }
 
-        private void ring(Plan plan, int f) {
-            int bell = plan.owners[f];
-            if (!workOut(plan.code, plan, plan.froms[f], plan.stops[f])) {
+        private void ring(int bell, boolean good) {
+            if (!good) {
                 state.addJam(Plan.FIRST_BELL + bell, jam, jamPlace);
             } else if (result() != 0) {
                 state.addStrike(bell);
@@ -2089,7 +2092,7 @@ public final class TurningHall {
             if (op == PLUS) {
                 result = Real.plus(x, y);
             } else if (op == MINUS) {
-                result = Real.minus(x, y);
+                result = Real.plus(x, y ^ Real.SIGN);
             } else if (op == TIMES) {
                 result = Real.times(x, y);
             } else {
