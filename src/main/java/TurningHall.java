@@ -212,7 +212,7 @@ public final class TurningHall {
         if (i < 0 || i >= current.things) {
             return 0;
         }
-        return ago == 0 ? state.values[i] : state.past(i, ago);
+        return ago == 0 ? state.valueOf(i) : state.past(i, ago);
     }
 
     public boolean set(int i, long bits) {
@@ -224,8 +224,8 @@ public final class TurningHall {
         if (!Sorts.isHeld(value, sort)) {
             return false;
         }
-        state.values[i] = value;
-        state.olds[i] = value;
+        state.becomes(i, value);
+        state.settleOld(i);
         return true;
     }
 
@@ -496,9 +496,6 @@ public final class TurningHall {
 
         private static long times(long a, long b) {
             long sign = (a ^ b) & SIGN;
-            if (size(a) == 0 || size(b) == 0) {
-                return sign;
-            }
             long x = mantissa(a);
             long y = mantissa(b);
             long mask = (1L << 27) - 1;
@@ -512,7 +509,7 @@ public final class TurningHall {
         private static long divided(long a, long b) {
             long sign = (a ^ b) & SIGN;
             long y = mantissa(b);
-            if (size(a) == 0 || y == 0) {
+            if (y == 0) {
                 return sign;
             }
             long x = mantissa(a);
@@ -930,6 +927,12 @@ public final class TurningHall {
             }
         }
 
+        private void giveSorts(int entry, int packed) {
+            if (entry >= 0 && entry < LIMIT) {
+                sorts[entry] = packed;
+            }
+        }
+
         private static int packSorts(int joined, int one, int two) {
             return joined << 6 | one << 3 | two;
         }
@@ -1042,6 +1045,10 @@ public final class TurningHall {
             for (int k = 0; k < lengths[slot]; k++) {
                 letters[slot * NAME_LIMIT + k] = (byte) tape.at(tape.place + k);
             }
+        }
+
+        private int sortOf(int thing) {
+            return thing >= 0 && thing < things ? sorts[thing] : TRUTH;
         }
 
         private void giveSort(int sort) {
@@ -1628,7 +1635,7 @@ public final class TurningHall {
             if (role == Plan.RINGING) {
                 good = given == TRUTH;
             } else if (role != Plan.ASKED) {
-                good = Sorts.comesTo(given, read.sorts[read.owners[f]]);
+                good = Sorts.comesTo(given, read.sortOf(read.owners[f]));
             }
             if (!good) {
                 noteSort(read.signPlaces[f]);
@@ -1645,7 +1652,7 @@ public final class TurningHall {
                     return push(DOUBLE);
                 case THING:
                 case OLD:
-                    return push(names.sorts[code.args[k]]);
+                    return push(names.sortOf(code.args[k]));
                 case INDEX:
                     int index = pop();
                     return index >= BYTE && index <= INT && push(DOUBLE);
@@ -1709,7 +1716,7 @@ public final class TurningHall {
             boolean truths = one == TRUTH && two == TRUTH;
             int joined = truths ? TRUTH : Sorts.joined(one, two);
             code.sorts[k] = Code.packSorts(joined, one, two);
-            code.sorts[code.args[k]] = code.sorts[k];
+            code.giveSorts(code.args[k], code.sorts[k]);
             boolean good = asked == TRUTH && (truths || Sorts.canJoin(one, two));
             return good && push(joined);
         }
@@ -1806,8 +1813,29 @@ public final class TurningHall {
             System.arraycopy(values, 0, olds, 0, MOST_THINGS);
         }
 
+        private long valueOf(int i) {
+            return i >= 0 && i < MOST_THINGS ? values[i] : 0;
+        }
+
+        private long oldOf(int i) {
+            return i >= 0 && i < MOST_THINGS ? olds[i] : 0;
+        }
+
+        private void becomes(int i, long bits) {
+            if (i >= 0 && i < MOST_THINGS) {
+                values[i] = bits;
+            }
+        }
+
+        /** OLD is what the thing is now. */
+        private void settleOld(int i) {
+            if (i >= 0 && i < MOST_THINGS) {
+                olds[i] = values[i];
+            }
+        }
+
         private long past(int i, int ago) {
-            if (ago < 1 || ago > PASTS || ago > ticks) {
+            if (i < 0 || i >= MOST_THINGS || ago < 1 || ago > PASTS || ago > ticks) {
                 return 0;
             }
             return pasts[(int) ((ticks - ago + 1) % PASTS) * MOST_THINGS + i];
@@ -1822,6 +1850,9 @@ public final class TurningHall {
         }
 
         private void addStrike(int bell) {
+            if (bell < 0 || bell >= MOST_BELLS) {
+                return;
+            }
             strikeTicks[(int) (struck % STRIKES)] = ticks;
             strikeBells[(int) (struck % STRIKES)] = bell;
             struck++;
@@ -1829,6 +1860,9 @@ public final class TurningHall {
         }
 
         private void addJam(int slot, int kind, int place) {
+            if (slot < 0 || slot >= Plan.FIRST_CAM) {
+                return;
+            }
             jams[slot] = oneMore(jams[slot]);
             kinds[slot] = kind;
             places[slot] = place;
@@ -1860,7 +1894,7 @@ public final class TurningHall {
                 if (plan.roles[f] == Plan.FIRST || plan.roles[f] == Plan.SHOWN) {
                     boolean good = workOut(plan.code, plan, plan.froms[f], plan.stops[f]);
                     renewThing(plan, f, good);
-                    state.olds[plan.owners[f]] = state.values[plan.owners[f]];
+                    state.settleOld(plan.owners[f]);
                 }
             }
         }
@@ -1882,7 +1916,7 @@ public final class TurningHall {
         private void renewThing(Plan plan, int f, boolean good) {
             int owner = plan.owners[f];
             if (good) {
-                state.values[owner] = Sorts.become(result(), plan.gives[f], plan.sorts[owner]);
+                state.becomes(owner, Sorts.become(result(), plan.gives[f], plan.sortOf(owner)));
             } else {
                 state.addJam(owner, jam, jamPlace);
             }
@@ -1917,10 +1951,10 @@ public final class TurningHall {
                         push(state.step);
                         break;
                     case THING:
-                        push(state.values[code.args[k]]);
+                        push(state.valueOf(code.args[k]));
                         break;
                     case OLD:
-                        push(state.olds[code.args[k]]);
+                        push(state.oldOf(code.args[k]));
                         break;
                     case INDEX:
                         push(tooth(plan, code.args[k], pop()));
@@ -1980,7 +2014,7 @@ public final class TurningHall {
         }
 
         private long tooth(Plan plan, int cam, long index) {
-            if (index < 0 || index >= plan.toothCounts[cam]) {
+            if (cam < 0 || cam >= plan.cams || index < 0 || index >= plan.toothCounts[cam]) {
                 jam = 4;
                 return 0;
             }

@@ -9,8 +9,12 @@ final class Due {
         checked++;
         if (got != want) {
             wrong++;
-            System.out.println(what + ": answered " + got + ", due is " + want);
+            System.out.println(shortened(what) + ": answered " + got + ", due is " + want);
         }
+    }
+
+    private static String shortened(String what) {
+        return what.length() <= 200 ? what : what.substring(0, 200) + " ..";
     }
 
     static void due(String what, boolean got, boolean want) {

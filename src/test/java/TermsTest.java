@@ -298,6 +298,38 @@ public final class TermsTest {
             (half + other + "bell c when true;bell d when ").length());
     }
 
+    /** Tapes that are full to the last byte, of tokens as short as can be. */
+    private static void fullTapes() {
+        Due.faulty("-1" + Due.times("+1", 1499), 2, 500);
+        Due.faulty(Due.times("1+", 1500), 1, 3000);
+        Due.faulty("1" + Due.times("+1", 1499) + ")", 1, 2999);
+        Due.faulty(Due.times("true?1:", 428) + "true", 1, 7 * 40 + 4);
+        Due.faulty("true" + Due.times("&&true", 499), 2, 4 + 249 * 6 + 2);
+        Due.faultyPlan(Due.times("show a:int=1;", 230), 2, 40 * 13 + 5);
+        Due.faultyPlan(Due.times("part a:int=1 then 1;", 150), 2, 40 * 20 + 5);
+        Due.faultyPlan(Due.times("bell a when 1<1;", 187), 2, 12 * 16 + 5);
+        Due.faultyPlan(Due.times("cam a=1;", 375), 2, 8 * 8 + 4);
+        Due.faultyPlan("cam a=1" + Due.times(",1", 1496) + ";", 2, 6 + 2 * 24);
+        Due.faultyPlan("cam a=1" + Due.times(",1", 1496), 1, 2999);
+        // As much stands open at once as can.
+        String open = Due.times("1||1&&1==1<1+1*(", 40);
+        Due.faulty(open + "1" + Due.times(")", 40), 4, open.lastIndexOf("=="));
+        Due.faulty(open + "-1", 1, open.length());
+        // As many choices as 500 nodes can make.
+        String choices = Due.times("false?2:", 40) + "3";
+        TurningHall chosen = Due.planned("show a:int=" + choices + ";show b:int=" + choices + ";show c:int=" + choices
+            + ";show d:int=" + choices + ";bell e when false?true:a==3;bell f when true||true&&true==false;");
+        Due.due("nodes", chosen.count(3), 4 * 121 + 6 + 7);
+        chosen.tick(2);
+        for (int i = 0; i < 4; i++) {
+            Due.due("chosen", chosen.value(i, 0), 3);
+        }
+        Due.due("rang", chosen.count(5), 4);
+        TurningHall hall = new TurningHall();
+        Due.type(hall, Due.times(" ", 3000));
+        Due.due("3000 blanks", hall.plan(), 0);
+    }
+
     private static void names() {
         Due.faultyPlan("show a:int=a;", 3, 11);
         Due.faultyPlan("part a:int=old(a) then 1;", 3, 15);
@@ -407,6 +439,7 @@ public final class TermsTest {
         readingFaults();
         depths();
         tooMuch();
+        fullTapes();
         names();
         sorts();
         cams();
