@@ -1977,7 +1977,7 @@ public final class TurningHall {
                     case IF:
                     case ELSE:
                     case CHOOSE:
-                        k += skipped(code, k);
+                        k += Math.max(skipped(code, k), 0);
                         break;
                     default:
                         long right = pop();
@@ -2010,7 +2010,7 @@ public final class TurningHall {
                     push(value);
                 }
             }
-            return skip ? Math.max(code.args[k] - k - 1, 0) : 0;
+            return skip ? code.args[k] - k - 1 : 0;
         }
 
         private long tooth(Plan plan, int cam, long index) {
@@ -2301,7 +2301,8 @@ public final class TurningHall {
         private long howFarWithBest(long ratio, long t, int pairs) {
             int low = 0;
             int high = pairs;
-            while (low < high) {
+            // Ten halvings leave nothing of 961 pairs.
+            for (int k = 0; k < 32 && low < high; k++) {
                 int middle = (low + high) / 2;
                 if (Real.times(ratio, sorted[middle]) < t) {
                     low = middle + 1;
