@@ -50,7 +50,20 @@ public final class DeskTest {
         }
     }
 
+    /** Every day of 400 years and some more, as the calendar comes round in them. */
+    private static void everyDay() {
+        for (int from = -60000; from < 90000; from += 100) {
+            Hall hall = new Hall();
+            for (int day = from; day < from + 100; day++) {
+                for (int what = 0; what < 5; what++) {
+                    hall.date(Double.doubleToRawLongBits(day), what);
+                }
+            }
+        }
+    }
+
     public static void main(String[] args) {
+        everyDay();
         Draws draws = new Draws(86400);
         for (int k = 0; k < 1500; k++) {
             texts(draws);
