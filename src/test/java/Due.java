@@ -2,15 +2,27 @@
 final class Due {
     private static int checked;
     private static int wrong;
+    private static int sentences;
+    private static String sentence = "";
 
     private Due() { }
+
+    /** The words of the document that the answers behind it are due by. */
+    static void sentence(String words) {
+        sentences++;
+        sentence = words;
+    }
 
     static void due(String what, long got, long want) {
         checked++;
         if (got != want) {
-            wrong++;
-            System.out.println(shortened(what) + ": answered " + got + ", due is " + want);
+            tell(shortened(what) + ": answered " + got + ", due is " + want);
         }
+    }
+
+    private static void tell(String what) {
+        wrong++;
+        System.out.println(sentence.isEmpty() ? what : what + " (" + sentence + ")");
     }
 
     private static String shortened(String what) {
@@ -24,13 +36,13 @@ final class Due {
     static void due(String what, String got, String want) {
         checked++;
         if (!got.equals(want)) {
-            wrong++;
-            System.out.println(what + ": answered '" + got + "', due is '" + want + "'");
+            tell(what + ": answered '" + got + "', due is '" + want + "'");
         }
     }
 
     static void finish(String name) {
-        System.out.println(name + ": " + checked + " answers, " + wrong + " not as due");
+        String of = sentences == 0 ? "" : " of " + sentences + " sentences";
+        System.out.println(name + ": " + checked + " answers" + of + ", " + wrong + " not as due");
         if (wrong != 0) {
             System.exit(1);
         }
