@@ -1,3 +1,5 @@
+import java.math.BigInteger;
+
 /** The Terms' NUMBERS at their boundaries: what wraps, where rounding turns, where a sort ends, what jams. */
 public final class NumbersBoundaryTest {
     private static final int INT = 4;
@@ -212,6 +214,37 @@ public final class NumbersBoundaryTest {
             for (float b : floats) {
                 for (char sign : "+-*/%".toCharArray()) {
                     real(a, sign, b);
+                }
+            }
+        }
+    }
+
+    /** Sums and products a hair above, at and below the middle of two reals: only one rounding tells them apart. */
+    private static void hairs() {
+        Due.sentence("+ - * / of reals are rounded once");
+        for (double half : new double[] {0x1p-53, 3 * 0x1p-53}) {
+            for (double x : new double[] {Math.nextDown(half), half, Math.nextUp(half)}) {
+                real(1.0, '+', x);
+                real(1.0, '-', x);
+                real(-1.0, '-', x);
+                real(1.0, '-', x / 2);
+                real(x, '-', 1.0);
+            }
+        }
+        // Farther below than all bits of the greater one: it must still not be lost where 1 less is half a step.
+        for (int power : new int[] {-54, -55, -56, -57, -107, -108, -113, -114, -115, -116, -117, -118, -1000}) {
+            real(1.0, '-', Math.scalb(1.0, power));
+            real(1.0, '+', Math.scalb(1.0, power));
+            real(1 + 0x1p-52, '-', Math.scalb(1.0, power));
+        }
+        BigInteger one = BigInteger.ONE;
+        for (long a : new long[] {(1L << 52) + 1, (1L << 53) - 1, 6004799503160661L, 7000000000000001L, 5000000000000003L}) {
+            for (int low = 52; low <= 53; low++) {
+                BigInteger round = one.shiftLeft(low);
+                for (int hair = -3; hair <= 3; hair++) {
+                    BigInteger wanted = one.shiftLeft(low - 1).add(BigInteger.valueOf(hair));
+                    long b = BigInteger.valueOf(a).modInverse(round).multiply(wanted).mod(round).longValue();
+                    real((double) a, '*', (double) (low == 53 ? b : b | 1L << 52));
                 }
             }
         }
@@ -485,6 +518,7 @@ public final class NumbersBoundaryTest {
         wraps();
         quotients();
         rounding();
+        hairs();
         rests();
         smallerWholes();
         wholesAsReals();

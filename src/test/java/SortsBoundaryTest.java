@@ -145,6 +145,12 @@ public final class SortsBoundaryTest {
         Due.told("true?(char)65535:(byte)-1", 4, 65535);
         Due.told("false?(char)65535:(byte)-1", 4, -1);
         Due.told("true?0.1f:1.0", (double) 0.1f);
+        Due.told("false?1.0:0.1f", (double) 0.1f);
+        Due.told("false?1:0.1", 0.1);
+        Due.told("false?1f:0.1", 0.1);
+        Due.told("true?0.1:1", 0.1);
+        Due.told("true?0.1:1f", 0.1);
+        Due.told("false?1:0.1f", 0.1f);
     }
 
     private static void whatThingsGet() {

@@ -137,6 +137,95 @@ public final class TextsBoundaryTest {
         Due.due("it goes on", hall.value(0, 0), 32);
     }
 
+    /** A plan of less than the two that were read before it: nothing of those is left. */
+    private static void formerPlans() {
+        Due.sentence("plan: The tape becomes the plan (and nothing else is)");
+        String large = "part a:int=1 then a+1;part b:int=2 then 3;bell c when true;bell d when true;cam e=1,2;cam f=3,4;cam g=5;";
+        TurningHall hall = new TurningHall();
+        Due.due("large", Due.plan(hall, large), 2);
+        Due.due("large again", Due.plan(hall, large), 2);
+        hall.tick(3);
+        Due.due("small", Due.plan(hall, "part a:int=7 then a;cam e=9;"), 1);
+        hall.tick(2);
+        Due.due("no bell strikes", hall.count(5), 0);
+        Due.due("no part", hall.set(1, 5), false);
+        Due.due("no value", hall.value(1, 0), 0);
+        Due.due("no past", hall.value(1, 1), 0);
+        for (int i : new int[] {1, 100, 101, 201, 202}) {
+            Due.due("no name of " + i, hall.letter(i, 0), -1);
+            Due.due("no thing " + i, hall.thing(i, 2), -1);
+        }
+        for (String name : new String[] {"b", "c", "d", "f[0]", "g[0]"}) {
+            Due.due("no " + name, Due.ask(hall, name), -1);
+        }
+        Due.told(hall, "e[0]", 7, Due.bits(9));
+        Due.due("no second number", Due.ask(hall, "e[1]"), 12);
+        // The names of the former two are free.
+        TurningHall free = new TurningHall();
+        Due.plan(free, large);
+        Due.plan(free, large);
+        Due.due("other things", Due.plan(free, "cam c=1;bell b when true;part e:int=1 then 1;show f:int=1;show d:int=1;"), 3);
+        Due.plan(free, "show b:int=1;");
+        Due.due("other things", Due.plan(free, "part g:int=1 then 1;cam a=1;bell e when true;"), 1);
+        Due.due("the empty one", free.plan(), 0);
+        for (int i : new int[] {0, 100, 200}) {
+            Due.due("no name of " + i, free.letter(i, 0), -1);
+        }
+    }
+
+    /** As many things, bells, cams, numbers and nodes as can be, all with names of 10 bytes. */
+    private static void fullestPlan() {
+        Due.sentence("plan: how many things (40, with 12 bells, 8 cams of 24 numbers, 500 nodes)");
+        StringBuilder text = new StringBuilder();
+        for (int k = 0; k < 8; k++) {
+            text.append("cam ccccccccc").append(k).append("=").append(k).append(Due.times(",1", 22)).append(",").append(k).append(";");
+        }
+        for (int k = 0; k < 12; k++) {
+            text.append("bell bbbbbbbb").append(10 + k).append(" when ticks==").append(k + 1).append(";");
+        }
+        String sum = Due.times("+0", 171);
+        for (int k = 0; k < 40; k++) {
+            text.append("part aaaaaaaa").append(10 + k).append(":int=").append(k).append(" then ").append(k + 50);
+            text.append(k == 39 ? sum : "").append(";");
+        }
+        // 12 times 3, 40 times 2, and 342 of the sum; what is missing to 500 are 42 signs ahead.
+        String full = text.toString().replace("then 51;", "then " + Due.times("-", 40) + "51;").replace("then 52;", "then - -52;");
+        TurningHall hall = new TurningHall();
+        Due.due("bytes", full.length() <= 3000, true);
+        Due.due("things", Due.plan(hall, full), 40);
+        Due.due("bells", hall.count(1), 12);
+        Due.due("cams", hall.count(2), 8);
+        Due.due("nodes", hall.count(3), 500);
+        for (int k = 0; k < 40; k++) {
+            Due.due("first value " + k, hall.value(k, 0), k);
+            Due.due("last byte of thing " + k, hall.letter(k, 9), '0' + k % 10);
+            Due.due("first byte of thing " + k, hall.letter(k, 0), 'a');
+        }
+        Due.due("ticks", hall.tick(12), 12);
+        for (int k = 0; k < 40; k++) {
+            Due.due("next value " + k, hall.value(k, 0), k + 50);
+        }
+        for (int k = 0; k < 12; k++) {
+            Due.due("COUNT " + k, hall.thing(100 + k, 6), 1);
+            Due.due("tick " + k, hall.strike(11 - k, 0), k + 1);
+            Due.due("bell " + k, hall.strike(11 - k, 1), k);
+            Due.due("first byte of bell " + k, hall.letter(100 + k, 0), 'b');
+        }
+        for (int k = 0; k < 8; k++) {
+            Due.due("first byte of cam " + k, hall.letter(200 + k, 0), 'c');
+            Due.told(hall, "ccccccccc" + k + "[0]", 7, Due.bits(k));
+            Due.told(hall, "ccccccccc" + k + "[23]", 7, Due.bits(k));
+        }
+        Due.due("keep", hall.keep(0), true);
+        hall.tick(31);
+        Due.due("the last past of the last thing", hall.value(39, 31), 89);
+        Due.due("back", hall.back(0), true);
+        Due.due("the first past", hall.value(39, 12), 39);
+        Due.due("one node more", Due.plan(hall, full + "bell x"), -1 - full.length() - 6);
+        Due.due("one node more", Due.plan(hall, full.replace("then 53;", "then -53;")) < 0, true);
+        Due.due("kind", hall.fault(), 2);
+    }
+
     private static void fault() {
         Due.sentence("fault: The kind of the FAULT of the latest plan(), ask() or await() (0 without one, and ahead of any)");
         TurningHall hall = new TurningHall();
@@ -355,6 +444,8 @@ public final class TextsBoundaryTest {
         feed();
         end();
         plan();
+        formerPlans();
+        fullestPlan();
         fault();
         count();
         thing();

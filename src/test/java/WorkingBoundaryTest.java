@@ -40,6 +40,10 @@ public final class WorkingBoundaryTest {
         Due.jams("1/0==0?1:2", 1);
         Due.told("false?1/0:false?1/0:3", 4, 3);
         Due.told("true?true?1:1/0:1/0", 4, 1);
+        Due.told("(false?1:2)+3", 4, 5);
+        Due.told("(true?1:2)+3", 4, 4);
+        Due.told("(false?true:false)||true", 0, 1);
+        Due.told("(true?true:false)&&!true", 0, 0);
         Due.told("(true||1/0==0)&&!(false&&1/0==0)?7:1/0", 4, 7);
     }
 
@@ -145,6 +149,48 @@ public final class WorkingBoundaryTest {
         Due.told("gcd(1p1023,1p-1074)", MIN);
     }
 
+    private static boolean compared(String sign, int order) {
+        switch (sign) {
+            case "<":
+                return order < 0;
+            case "<=":
+                return order <= 0;
+            case ">":
+                return order > 0;
+            case ">=":
+                return order >= 0;
+            case "==":
+                return order == 0;
+            default:
+                return order != 0;
+        }
+    }
+
+    private static void comparisons() {
+        Due.sentence("< <= > >=: both JOINED, gives TRUTH. == !=: likewise, or two TRUTHS");
+        String[][] rows = {{"-2147483647-1", "-2147483647", "-1", "0", "1", "2147483646", "2147483647"},
+            {"-9223372036854775807l-1", "-9223372036854775807l", "-1l", "0l", "1l", "9223372036854775806l", "9223372036854775807l"},
+            {"-1p127f", "-1.5f", "-1f", "-1p-149f", "0f", "1p-149f", "1f", "1.5f", "1p127f"},
+            {"-1p1023", "-1.5", "-1.0", "-1p-1074", "0.0", "1p-1074", "1.0", "1.5", "1p1023"},
+            {"(byte)-128", "(byte)-1", "(char)0", "(short)1", "(byte)127", "(short)32767", "(char)65535", "65536", "4294967296l", "1p63f", "1p64"}};
+        for (String[] row : rows) {
+            for (int a = 0; a < row.length; a++) {
+                for (int b = 0; b < row.length; b++) {
+                    for (String sign : new String[] {"<", "<=", ">", ">=", "==", "!="}) {
+                        Due.told(row[a] + sign + row[b], 0, compared(sign, Integer.compare(a, b)) ? 1 : 0);
+                    }
+                    Due.told("least(" + row[a] + "," + row[b] + ")==" + row[Math.min(a, b)], 0, 1);
+                    Due.told("most(" + row[a] + "," + row[b] + ")==" + row[Math.max(a, b)], 0, 1);
+                }
+            }
+        }
+        Due.told("true==true", 0, 1);
+        Due.told("true==false", 0, 0);
+        Due.told("false==false", 0, 1);
+        Due.told("false!=true", 0, 1);
+        Due.told("false!=false", 0, 0);
+    }
+
     private static void olds() {
         Due.sentence("old(NAME): what the thing was ahead of the latest tick (at first, and behind set(), what it is)");
         TurningHall hall = Due.planned("part a:int=5 then a+1;show s:int=old(a)*100+a;");
@@ -204,6 +250,15 @@ public final class WorkingBoundaryTest {
             Due.due("kind of " + i, jammed.thing(i, 4), kinds[i]);
             Due.due("place of " + i, jammed.thing(i, 5), places[i]);
         }
+        // What stood there in another plan is nothing to it.
+        TurningHall again = Due.planned("part a:int=5 then 6;show t:truth=true;part d:double=7 then 8;");
+        again.tick(1);
+        Due.plan(again, "part a:int=1/0 then 7;show t:truth=1%0==0;show d:double=-1/0.0;");
+        for (int i = 0; i < 3; i++) {
+            Due.due("value behind another plan's of " + i, again.value(i, 0), 0);
+        }
+        Due.told(again, "old(a)", 4, 0);
+        Due.told(again, "old(t)", 0, 0);
         Due.told(jammed, "old(l)", 5, 5);
         Due.told(jammed, "old(a)", 4, 0);
         Due.plan(jammed, "show x:int=a;");
@@ -330,6 +385,7 @@ public final class WorkingBoundaryTest {
         leftAndRight();
         toWholes();
         leastAndMost();
+        comparisons();
         olds();
         newPlans();
         ticks();
