@@ -238,13 +238,16 @@ public final class NumbersBoundaryTest {
             real(1 + 0x1p-52, '-', Math.scalb(1.0, power));
         }
         BigInteger one = BigInteger.ONE;
-        for (long a : new long[] {(1L << 52) + 1, (1L << 53) - 1, 6004799503160661L, 7000000000000001L, 5000000000000003L}) {
+        for (int k = 0; k < 16; k++) {
+            long a = (1L << 52) + 1 + k * 281000000000002L;
             for (int low = 52; low <= 53; low++) {
                 BigInteger round = one.shiftLeft(low);
-                for (int hair = -3; hair <= 3; hair++) {
-                    BigInteger wanted = one.shiftLeft(low - 1).add(BigInteger.valueOf(hair));
-                    long b = BigInteger.valueOf(a).modInverse(round).multiply(wanted).mod(round).longValue();
-                    real((double) a, '*', (double) (low == 53 ? b : b | 1L << 52));
+                for (int bit = -1; bit < low - 1; bit++) {
+                    BigInteger hair = bit < 0 ? BigInteger.ZERO : one.shiftLeft(bit);
+                    for (BigInteger wanted : new BigInteger[] {one.shiftLeft(low - 1).add(hair), one.shiftLeft(low - 1).subtract(hair)}) {
+                        long b = BigInteger.valueOf(a).modInverse(round).multiply(wanted).mod(round).longValue();
+                        real((double) a, '*', (double) (low == 53 ? b : b | 1L << 52));
+                    }
                 }
             }
         }

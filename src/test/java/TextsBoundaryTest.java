@@ -167,6 +167,14 @@ public final class TextsBoundaryTest {
         Due.due("other things", Due.plan(free, "cam c=1;bell b when true;part e:int=1 then 1;show f:int=1;show d:int=1;"), 3);
         Due.plan(free, "show b:int=1;");
         Due.due("other things", Due.plan(free, "part g:int=1 then 1;cam a=1;bell e when true;"), 1);
+        String[] fewer = {"bell a when true;", "part c:int=1 then 1;", "show e:int=1;", "bell c when true;show d:int=1;",
+            "part a:int=1 then 1;cam b=1;", "cam e=1;bell f when true;"};
+        for (String text : fewer) {
+            TurningHall twice = new TurningHall();
+            Due.plan(twice, large);
+            Due.plan(twice, large);
+            Due.due("behind the places of the former names: " + text, Due.plan(twice, Due.times(" ", 200) + text) >= 0, true);
+        }
         Due.due("the empty one", free.plan(), 0);
         for (int i : new int[] {0, 100, 200}) {
             Due.due("no name of " + i, free.letter(i, 0), -1);

@@ -300,6 +300,25 @@ public final class TokensBoundaryTest {
         Due.faultyPlan("1x", 1, 0);
     }
 
+    private static void cams() {
+        Due.sentence("CAM: .. each becomes a DOUBLE; with - its sign is turned round then, of 0, too");
+        String[] numbers = {"0", "-0", "0.0", "-0.0", "-0f", "-0l", "2147483647", "-2147483647", "9223372036854775807l", "-9223372036854775807l",
+            "9007199254740993l", "-9007199254740993l", "0.1f", "-0.1f", "-1p-1074", "1p1023", "-16777215p104f"};
+        double[] due = {0.0, -0.0, 0.0, -0.0, -0.0, -0.0, 2147483647.0, -2147483647.0, 0x1p63, -0x1p63, 0x1p53, -0x1p53, 0.1f, -0.1f,
+            -Double.MIN_VALUE, 0x1p1023, -Float.MAX_VALUE};
+        TurningHall hall = Due.planned("cam c=" + String.join(",", numbers) + ";cam d= - 0 , -1;");
+        for (int k = 0; k < due.length; k++) {
+            Due.told(hall, "c[" + k + "]", 7, Due.bits(due[k]));
+        }
+        Due.told(hall, "d[0]", 7, Due.bits(-0.0));
+        Due.told(hall, "d[1]", 7, Due.bits(-1));
+        Due.due("beyond", Due.ask(hall, "c[" + due.length + "]"), 12);
+        Due.due("beyond", Due.ask(hall, "d[2]"), 12);
+        Due.faultyPlan("cam c=2147483648;", 1, 6);
+        Due.faultyPlan("cam c=-2147483648;", 1, 7);
+        Due.faultyPlan("cam c=-9223372036854775808l;", 1, 7);
+    }
+
     public static void main(String[] args) {
         bytes();
         blanks();
@@ -310,6 +329,7 @@ public final class TokensBoundaryTest {
         realNumbers();
         finiteNumbers();
         notAsTold();
+        cams();
         Due.finish("TokensBoundaryTest");
     }
 }
