@@ -182,8 +182,7 @@ public final class TextsBoundaryTest {
     }
 
     /** As many things, bells, cams, numbers and nodes as can be, all with names of 10 bytes. */
-    private static void fullestPlan() {
-        Due.sentence("plan: how many things (40, with 12 bells, 8 cams of 24 numbers, 500 nodes)");
+    private static String fullestText() {
         StringBuilder text = new StringBuilder();
         for (int k = 0; k < 8; k++) {
             text.append("cam ccccccccc").append(k).append("=").append(k).append(Due.times(",1", 22)).append(",").append(k).append(";");
@@ -197,9 +196,14 @@ public final class TextsBoundaryTest {
             text.append(k == 39 ? sum : "").append(";");
         }
         // 12 times 3, 40 times 2, and 342 of the sum; what is missing to 500 are 42 signs ahead.
-        String full = text.toString().replace("then 51;", "then " + Due.times("-", 40) + "51;").replace("then 52;", "then - -52;");
-        TurningHall hall = new TurningHall();
+        return text.toString().replace("then 51;", "then " + Due.times("-", 40) + "51;").replace("then 52;", "then - -52;");
+    }
+
+    private static void fullestPlan() {
+        Due.sentence("plan: how many things (40, with 12 bells, 8 cams of 24 numbers, 500 nodes)");
+        String full = fullestText();
         Due.due("bytes", full.length() <= 3000, true);
+        TurningHall hall = new TurningHall();
         Due.due("things", Due.plan(hall, full), 40);
         Due.due("bells", hall.count(1), 12);
         Due.due("cams", hall.count(2), 8);
@@ -219,19 +223,20 @@ public final class TextsBoundaryTest {
             Due.due("bell " + k, hall.strike(11 - k, 1), k);
             Due.due("first byte of bell " + k, hall.letter(100 + k, 0), 'b');
         }
+        TurningHall cams = Due.planned(full);
         for (int k = 0; k < 8; k++) {
-            Due.due("first byte of cam " + k, hall.letter(200 + k, 0), 'c');
-            Due.told(hall, "ccccccccc" + k + "[0]", 7, Due.bits(k));
-            Due.told(hall, "ccccccccc" + k + "[23]", 7, Due.bits(k));
+            Due.due("first byte of cam " + k, cams.letter(200 + k, 0), 'c');
+            Due.told(cams, "ccccccccc" + k + "[0]", 7, Due.bits(k));
+            Due.told(cams, "ccccccccc" + k + "[23]", 7, Due.bits(k));
         }
-        Due.due("keep", hall.keep(0), true);
-        hall.tick(31);
-        Due.due("the last past of the last thing", hall.value(39, 31), 89);
-        Due.due("back", hall.back(0), true);
-        Due.due("the first past", hall.value(39, 12), 39);
-        Due.due("one node more", Due.plan(hall, full + "bell x"), -1 - full.length() - 6);
-        Due.due("one node more", Due.plan(hall, full.replace("then 53;", "then -53;")) < 0, true);
-        Due.due("kind", hall.fault(), 2);
+        cams.tick(12);
+        Due.due("keep", cams.keep(0), true);
+        cams.tick(31);
+        Due.due("the last past of the last thing", cams.value(39, 31), 89);
+        Due.due("back", cams.back(0), true);
+        Due.due("the first past", cams.value(39, 12), 39);
+        Due.faultyPlan(full + "bell x", 1, full.length() + 6);
+        Due.faultyPlan(full.replace("then 53;", "then -53;"), 2, full.length() - 1);
     }
 
     private static void fault() {
